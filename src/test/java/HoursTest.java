@@ -8,6 +8,7 @@ public final class HoursTest {
         theLastHour();
         draws();
         drawsWithoutEyes();
+        outByDraws();
         seed();
         Due.end("HoursTest");
     }
@@ -134,8 +135,11 @@ public final class HoursTest {
         Due.refused(x, "loose(40) at 9960", Due.STATE, () -> x.loose(40));
         Due.refused(x, "hours(61) at 9960", Due.BEYOND, () -> x.hours(61));
         Due.refused(x, "loose(41) at 9960", Due.BEYOND, () -> x.loose(41));
-        Due.due("loose(38)", x.loose(38), 0);
-        Due.due("hours(1)", x.hours(1), 0);
+        x.image();
+        Due.due("hours(39), up to 9999", x.hours(39), 0);
+        Due.due("HOUR", x.count(2), 9999);
+        x.restore();
+        Due.due("loose(39), up to 9999", x.loose(39), 0);
         Due.due("HOUR", x.count(2), 9999);
         Due.refused(x, "hours(1) at 9999", Due.STATE, () -> x.hours(1));
         Due.refused(x, "loose(1) at 9999", Due.STATE, () -> x.loose(1));
@@ -183,6 +187,20 @@ public final class HoursTest {
         Due.due("loose(2)", x.loose(2), 0);
         int z = 1103515245 + 12345;
         Due.due("a draw without EYES is a draw", x.count(9), z * 1103515245 + 12345);
+    }
+
+    private static void outByDraws() {
+        GlassEyes x = harbours(0, 0);
+        x.wearer();
+        x.wearer();
+        for (int t = 0; t < 10; t++) {
+            x.dread(t, 9);
+        }
+        x.wear(0, 0, 0);
+        x.wear(1, 1, 1);
+        Due.due("loose(2), 18 of 20", x.loose(2), 0);
+        Due.due("loose(1), both are out", x.loose(1), 2);
+        Due.due("loose(5), none is worn", x.loose(5), 0);
     }
 
     private static void seed() {

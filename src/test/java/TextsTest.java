@@ -84,6 +84,15 @@ public final class TextsTest {
         worth("(b|h)&m", 1, 1, 0, 0);
         worth("b=1&h=2|m=3", 0, 2, 3, 1);
         worth("b&h<m", 5, 1, 2, 1);
+        worth("5+(b<h)", 4, 3, 0, 5);
+        worth("5+(b>h)", 3, 4, 0, 5);
+        worth("5+(b=h)", 3, 4, 0, 5);
+        worth("5+(b&h)", 3, 0, 0, 5);
+        worth("5+(b|h)", 0, 0, 0, 5);
+        worth("5+(b|h)", 7, 9, 0, 6);
+        worth("5+(b&h)", 7, 8, 0, 6);
+        worth("5+b/h", 7, 0, 0, 5);
+        worth("5+0*b", 7, 0, 9, 5);
         worth("!b", 5, 0, 0, 0);
         worth("!b", 0, 0, 0, 1);
         worth("!!b", 5, 0, 0, 1);

@@ -13,8 +13,10 @@ public final class ThoughtTest {
         lend();
         blind();
         agree();
+        agreeWithinTwelve();
         dreads();
         swap();
+        swapOfBothSides();
         odds();
         oddsOfOneAlready();
         Due.end("ThoughtTest");
@@ -313,6 +315,27 @@ public final class ThoughtTest {
         Due.refused(none, "agree(1), nobody", Due.NONE, () -> none.agree(1));
     }
 
+    private static void agreeWithinTwelve() {
+        GlassEyes x = made(3, 2, 3, 5, 3);
+        x.dread(3, 0);
+        x.dread(5, 1);
+        Due.read(x, 1, "0");
+        x.wear(0, 0, 0);
+        x.wear(1, 0, 1);
+        x.wear(1, 1, 2);
+        x.set(1, 0, 11);
+        Due.due("agree(0), 5 is out behind 11", x.agree(0), 11);
+        Due.due("agree(1), 5 is out behind 11", x.agree(1), 2);
+        x.set(1, 0, 12);
+        Due.due("agree(0), 5 is out behind 12", x.agree(0), 0);
+        Due.due("agree(1), 5 is out behind 12", x.agree(1), 1);
+        x.change(0, 0, 0);
+        x.change(2, 0, 0);
+        x.set(1, 0, 3);
+        Due.due("agree(0), on 0", x.agree(0), 3);
+        Due.due("agree(1), on 0", x.agree(1), 2);
+    }
+
     private static void dreads() {
         GlassEyes x = made(3, 3, 9, 4);
         x.wear(0, 0, 0);
@@ -365,6 +388,18 @@ public final class ThoughtTest {
         Due.due("swap(3), a new one", new GlassEyes().swap(3), -1);
     }
 
+    /** 0 has 1 and 2, 1 has 5 and 1, and both HEED 1; did the LEFT ones alone change, 2 were SEEN too. */
+    private static void swapOfBothSides() {
+        GlassEyes x = made(3, 2, 1, 2, 5, 1);
+        Due.read(x, 1, "l>r");
+        x.wear(0, 0, 0);
+        x.wear(0, 1, 1);
+        x.wear(1, 0, 2);
+        x.wear(1, 1, 3);
+        Due.due("blind(2)", x.blind(2), 1023 - 2);
+        Due.due("swap(2)", x.swap(2), -1);
+    }
+
     private static void odds() {
         GlassEyes x = made(3, 2, 1, 2, 2, 2, 5, 6);
         x.wear(0, 0, 4);
@@ -395,5 +430,8 @@ public final class ThoughtTest {
         Due.due("odds of what was SEEN ahead", x.odds(0, 3, 0, 0), 1);
         Due.due("odds of what was SEEN ahead, below", x.odds(0, 3, 0, 1), 1);
         Due.due("odds of another", x.odds(0, 4, 5, 1), 3);
+        x.eye(30, 4);
+        Due.due("2 of 4", x.odds(0, 4, 5, 0), 1);
+        Due.due("2 of 4, below", x.odds(0, 4, 5, 1), 2);
     }
 }

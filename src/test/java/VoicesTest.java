@@ -54,6 +54,12 @@ public final class VoicesTest {
     }
 
     private static void anyNumber() {
+        GlassEyes y = new GlassEyes();
+        for (int e = 0; e < 8; e++) {
+            y.eye(60, 0);
+        }
+        said(y, 7, 2, -5, 5 ^ 7, 70, 40, 12);
+        said(y, 5, 2, 1, -1 ^ 5, 70, 40, 12);
         GlassEyes x = new GlassEyes();
         x.eye(9, 0);
         x.eye(19, 0);
