@@ -721,6 +721,7 @@ public final class GlassEyes {
         int outs;
         int firstOut;
         int lost;
+        /** The one who keeps what it wears, bearing nothing, as is supposed for whose(). */
         int spared;
 
         World(Laws laws, EyeKind[] kinds) {
@@ -870,7 +871,7 @@ public final class GlassEyes {
             }
             wearOn(eyeIn[2 * wearer + LEFT]);
             wearOn(eyeIn[2 * wearer + RIGHT]);
-            if (bearsOf[wearer] == 0) {
+            if (wearer != spared && bearsOf[wearer] == 0) {
                 takeOut(wearer, eye);
             }
         }

@@ -114,7 +114,7 @@ final class Model {
                         worn.worn++;
                     }
                 }
-                if (w.bears == 0) {
+                if (w != spared && w.bears == 0) {
                     w.sides[w.sides[0] == e ? 0 : 1] = null;
                     w.bears = 20;
                     h.outs.add(wearers.indexOf(w));

@@ -10,6 +10,7 @@ public final class ThoughtTest {
         watch();
         whose();
         whoseWithoutBearing();
+        whoseWornOnWithBearsOfNothing();
         lend();
         blind();
         agree();
@@ -212,13 +213,39 @@ public final class ThoughtTest {
         x.set(0, 0, 1);
         Due.due("BEARS is never less: 40 HOURS of 9", x.whose(0, 0, 0), 1);
         x.set(0, 0, 0);
-        Due.due("BEARS of 0 is 0 behind an HOUR: it is out", x.whose(0, 0, 0), 0);
+        Due.due("BEARS of 0: it wears the EYE in all of these HOURS", x.whose(0, 0, 0), 1);
+        Due.due("and BEARS of it stays", x.ofWearer(0, 2), 0);
         for (int i = 1; i < 40; i++) {
             x.put(0, i, 10);
         }
-        Due.due("and nothing is HEEDED from then on", x.whose(0, 0, 0), 1);
+        Due.due("so never HEEDS nothing, with 0", x.whose(0, 0, 0), 0);
         x.set(0, 0, 1);
-        Due.due("but not with 1", x.whose(0, 0, 0), 0);
+        Due.due("nor with 1", x.whose(0, 0, 0), 0);
+    }
+
+    /** An ALLEY with m 1 and BASE 2 shows 3, 5, 7, 6 ..: it goes on being worn, though others take theirs out meanwhile. */
+    private static void whoseWornOnWithBearsOfNothing() {
+        GlassEyes x = new GlassEyes();
+        x.eye(41, 2);
+        x.eye(30, 9);
+        x.wearer();
+        x.wearer();
+        x.wearer();
+        x.wear(1, 0, 1);
+        x.wear(2, 1, 0);
+        for (int wearer = 0; wearer < 3; wearer++) {
+            x.set(wearer, 0, 0);
+        }
+        int[] things = {3, 5, 7, 6, 8, 0, 9};
+        x.sheet(2, 16, things.length);
+        for (int i = 0; i < things.length; i++) {
+            x.put(2, i, things[i]);
+        }
+        for (int wearer = 0; wearer < 3; wearer++) {
+            Due.due("the ALLEY by " + wearer, x.whose(2, wearer, 0), 1);
+            Due.due("the ALLEY by " + wearer + ", how many", x.whose(2, wearer, 1), 1);
+        }
+        Due.due("hours are not spared: both worn ones are out", x.hours(1), 2);
     }
 
     private static void lend() {
