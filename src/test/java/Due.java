@@ -86,24 +86,11 @@ final class Due {
         return all.toString();
     }
 
-    /** An act answers an ERROR: told() tells one more of it, and nothing else has changed. */
+    /** An act answers an ERROR, and told() tells one more of it; that nothing else has changed is asked by Edge. */
     static void refused(GlassEyes x, String call, int error, IntSupplier act) {
-        String was = look(x);
-        int[] before = tolds(x);
+        int k = LOW - error;
+        int before = x.told(k);
         due(call, act.getAsInt(), error);
-        int[] after = tolds(x);
-        for (int k = 1; k <= 5; k++) {
-            due("told(" + k + ") behind " + call, after[k], before[k] + (error == LOW - k ? 1 : 0));
-        }
-        same("all behind " + call, look(x), was);
-    }
-
-    /** How often each ERROR was told so far, in order. */
-    static int[] tolds(GlassEyes x) {
-        int[] tolds = new int[6];
-        for (int k = 1; k <= 5; k++) {
-            tolds[k] = x.told(k);
-        }
-        return tolds;
+        due("told(" + k + ") behind " + call, x.told(k), before + 1);
     }
 }

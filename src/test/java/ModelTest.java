@@ -3,7 +3,9 @@ import java.util.Random;
 /** Runs of calls by chance (always the same ones) on the class and on the model, which must answer alike. */
 public final class ModelTest {
     private static final int RUNS = 2500;
-    private static final int CALLS = 220;
+    private static final int ACTS = 220;
+    /** An act is a few calls at most, so that no object is asked more than the 512 that the document allows. */
+    private static final int MOST_CALLS = 480;
     private static final int[] WILD = {Integer.MIN_VALUE, Integer.MIN_VALUE + 1, -1000000001, -10, -2, -1, 0, 1, 10, 20, 41,
         60, 61, 100, 1024, 10000, Integer.MAX_VALUE - 1, Integer.MAX_VALUE};
 
@@ -12,6 +14,7 @@ public final class ModelTest {
     private final Model y = new Model();
     private final StringBuilder log = new StringBuilder();
     private boolean alike = true;
+    private int calls = 0;
 
     private ModelTest(long seed) {
         chance = new Random(seed);
@@ -39,7 +42,7 @@ public final class ModelTest {
         for (int i = 0; i < wearers && alike; i++) {
             call(4);
         }
-        for (int i = 0; i < CALLS && alike; i++) {
+        for (int i = 0; i < ACTS && alike && calls < MOST_CALLS; i++) {
             call(chance.nextInt(46));
         }
         return alike;
@@ -65,11 +68,11 @@ public final class ModelTest {
     }
 
     private int anEye() {
-        return some(0, x.count(0) - 1);
+        return some(0, y.count(0) - 1);
     }
 
     private int aWearer() {
-        return some(0, x.count(1) - 1);
+        return some(0, y.count(1) - 1);
     }
 
     private int any() {
@@ -77,6 +80,7 @@ public final class ModelTest {
     }
 
     private void same(String name, int got, int want, long... args) {
+        calls++;
         log.append(name).append(java.util.Arrays.toString(args)).append(" answered ").append(got);
         if (got != want) {
             log.append(", the model ").append(want);
@@ -118,7 +122,7 @@ public final class ModelTest {
                 b = a == 0 ? some(0, 99) : some(0, 1023);
                 same("set", x.set(w, a, b), y.set(w, a, b), w, a, b);
                 break;
-            case 7: a = some(0, 1); b = some(-1, x.count(0) - 1); same("wear", x.wear(w, a, b), y.wear(w, a, b), w, a, b); break;
+            case 7: a = some(0, 1); b = some(-1, y.count(0) - 1); same("wear", x.wear(w, a, b), y.wear(w, a, b), w, a, b); break;
             case 8: a = some(0, 69); same("become", x.become(e, a), y.become(e, a), e, a); break;
             default: a = some(0, 6); same("as", x.as(e, a), y.as(e, a), e, a); break;
         }
@@ -213,10 +217,10 @@ public final class ModelTest {
     private void tellWhose(int w) {
         int s = some(0, 3);
         int bit = some(0, 1);
-        if (chance.nextBoolean() && w >= 0 && w < x.count(1) && x.count(0) > 0) {
+        if (chance.nextBoolean() && w >= 0 && w < y.count(1) && y.count(0) > 0) {
             int n = chance.nextInt(9);
             same("sheet", x.sheet(s, 8, n), y.sheet(s, 8, n), s, 8, n);
-            Model.City c = y.alone(w, chance.nextInt(x.count(0)));
+            Model.City c = y.alone(w, chance.nextInt(y.count(0)));
             for (int i = 0; i < n; i++) {
                 int thing = c.pass(chance.nextInt(5) == 0 ? null : c.wearers.get(w)).things.get(w);
                 same("put", x.put(s, i, thing), y.put(s, i, thing), s, i, thing);
@@ -267,10 +271,10 @@ public final class ModelTest {
 
     private void judge(int s) {
         if (chance.nextBoolean()) {
-            int n = some(x.count(0), x.count(0));
+            int n = some(y.count(0), y.count(0));
             same("sheet", x.sheet(s, 16, n), y.sheet(s, 16, n), s, 16, n);
-            for (int i = 0; i < x.count(0); i++) {
-                int v = chance.nextInt(12) == 0 ? 3 : x.ofEye(i, 5);
+            for (int i = 0; i < y.count(0); i++) {
+                int v = chance.nextInt(12) == 0 ? 3 : y.ofEye(i, 5);
                 same("put", x.put(s, i, v), y.put(s, i, v), s, i, v);
             }
         }
