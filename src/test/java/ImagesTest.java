@@ -7,6 +7,7 @@ public final class ImagesTest {
         check();
         count();
         told();
+        theLastCall();
         Due.end("ImagesTest");
     }
 
@@ -193,5 +194,25 @@ public final class ImagesTest {
         for (int k = 1; k <= 5; k++) {
             Due.due("told(" + k + ")", x.told(k), want[k]);
         }
+    }
+
+    /** An object is used for at most 512 calls: the 512th is yet answered as all are. */
+    private static void theLastCall() {
+        GlassEyes often = new GlassEyes();
+        for (int i = 1; i <= 512; i++) {
+            Due.due("image(), call " + i, often.image(), i);
+        }
+        GlassEyes wrong = new GlassEyes();
+        for (int i = 1; i <= 511; i++) {
+            wrong.told(6);
+        }
+        Due.due("told(1), call 512", wrong.told(1), 511);
+        GlassEyes drawn = new GlassEyes();
+        int z = 1;
+        for (int i = 1; i <= 511; i++) {
+            drawn.loose(1);
+            z = z * 1103515245 + 12345;
+        }
+        Due.due("count(9), call 512", drawn.count(9), z);
     }
 }

@@ -65,6 +65,8 @@ public final class ThoughtEdgesTest {
             eyeFor(0,0,0,0)=0 eyeFor(0,0,0,1)=20 eyeFor(0,0,60,0)=0 eyeFor(0,0,60,1)=76 eyeFor(0,0,61,0)=BEYOND eyeFor(0,0,-1,0)=BEYOND
             eyeFor(0,0,MIN,0)=BEYOND eyeFor(0,0,MAX,0)=BEYOND""");
         Edge.edge("19. of several the least; BEARS then", three, "eyeFor(0,0,1,0)=1 eyeFor(0,0,1,1)=18 eyeFor(0,1,3,0)=1 eyeFor(0,1,3,1)=14");
+        Edge.edge("19. BEARS of 0, by 0 HOURS: the least EYE all the same", three, """
+            set(0,0,0)=20 eyeFor(0,0,0,0)=0 eyeFor(0,0,0,1)=0 eyeFor(0,1,0,0)=0 eyeFor(0,0,1,0)=0 eyeFor(0,0,1,1)=20""");
         Edge.edge("19. no such WEARER", Edge.SOME, """
             eyeFor(2,0,1,0)=BEYOND eyeFor(-1,0,1,0)=BEYOND eyeFor(MIN,0,1,0)=BEYOND eyeFor(MAX,0,1,0)=BEYOND eyeFor(1,1,0,0)=0""");
         Edge.edge("19. side 0, 1", Edge.SOME, "eyeFor(0,2,1,0)=BEYOND eyeFor(0,-1,1,0)=BEYOND eyeFor(0,MIN,1,0)=BEYOND eyeFor(0,MAX,1,0)=BEYOND");
@@ -134,6 +136,9 @@ public final class ThoughtEdgesTest {
         Edge.edge("21. just one EYE on the LEFT, and none on the RIGHT", """
             eye(30,3)=0 eye(30,4)=1 wearer()=0 wear(0,1,1)=-1 say'1' text(1)=1 sheet(0,8,1)=1 put(0,0,3)=1 whose(0,0,0)=1 put(0,0,4)=1
             whose(0,0,0)=2 ofWearer(0,1)=1 ofWearer(0,0)=-1""");
+        Edge.edge("21. just one EYE on the LEFT, and none on the RIGHT: of the last WEARER", Edge.EIGHT, Edge.SIX, """
+            wear(5,0,3)=-1 wear(5,1,4)=-1 wear(4,1,5)=-1 say'1' text(1)=1 sheet(0,8,2)=1 put(0,0,3)=1 put(0,1,3)=1 whose(0,5,0)=8 whose(0,4,0)=8
+            put(0,0,4)=1 put(0,1,4)=1 whose(0,5,0)=16 put(0,0,5)=1 put(0,1,5)=1 whose(0,5,0)=32 whose(0,1,0)=32""");
         Edge.edge("21. WORN goes on, and is held", """
             eye(40,0)=0 wearer()=0 say'0' text(0)=1 sheet(0,8,3)=1 change(0,1,9999)=0 whose(0,0,0)=1 change(0,1,0)=9999 whose(0,0,0)=0
             put(0,1,1)=1 put(0,2,2)=1 whose(0,0,0)=1 change(0,1,9999)=0 whose(0,0,0)=0""");
@@ -256,6 +261,9 @@ public final class ThoughtEdgesTest {
         Edge.edge("27. on the LEFT alone: its own ones are out", """
             eye(30,3)=0 eye(30,5)=1 wearer()=0 wear(0,1,1)=-1 say'1' text(1)=1 odds(0,5,1,0)=1 odds(0,5,1,1)=2 odds(0,3,1,0)=1 odds(0,3,1,1)=2
             ofWearer(0,1)=1""");
+        Edge.edge("27. on the LEFT alone: its own ones are out, of the last WEARER", Edge.EIGHT, Edge.SIX, """
+            wear(5,0,3)=-1 wear(5,1,4)=-1 wear(4,0,5)=-1 say'1' text(1)=1 odds(5,4,9,0)=1 odds(5,4,9,1)=8 odds(5,5,1,0)=1 odds(5,5,1,1)=8
+            odds(4,4,1,1)=8 odds(5,9,60,0)=0 odds(5,9,60,1)=1""");
         Edge.edge("27. taken from where it is", """
             eye(30,3)=0 wearer()=0 wearer()=1 wear(1,0,0)=-1 odds(0,3,1,0)=1 odds(0,3,1,1)=1 ofWearer(1,0)=0""");
         Edge.edge("27. only thought, HOUR beyond 9999, too", Edge.LAST_HOUR, """
