@@ -114,6 +114,8 @@ public final class RowsEdgesTest {
             move(2,0,1,0,2)=2 move(2,0,1,0,3)=BEYOND move(2,0,1,1,1)=1 move(2,0,1,1,2)=BEYOND move(2,0,1,2,1)=BEYOND move(2,0,1,MAX,1)=BEYOND
             move(2,0,1,1,MAX)=BEYOND move(2,0,1,MAX,MAX)=BEYOND""");
         Edge.edge("33. n of 0: none come", Edge.SOME, "move(1,0,2,0,0)=0 move(0,0,0,2,0)=0 bases(0)=3 ofEye(0,2)=4 ofEye(2,2)=6");
+        Edge.edge("33. n of 0: behind the last number none stand, and none are asked for; beyond that there is no place", Edge.SOME, """
+            move(1,2,2,5,0)=0 move(1,3,2,0,0)=BEYOND move(1,0,2,6,0)=BEYOND move(1,MAX,2,0,0)=BEYOND move(1,0,2,MAX,0)=BEYOND""");
         Edge.edge("33. all forty", "eye(30,9)=0 sheet(0,8,40)=1 sheet(1,8,40)=1 put(0,39,5)=1 move(0,0,1,0,40)=40 move(0,0,1,0,41)=BEYOND move(0,1,1,0,40)=BEYOND move(1,39,1,0,1)=1 bases(1)=1 ofEye(0,2)=5");
         Edge.edge("33. they come to the other one alone, and the rest stays", Edge.SOME, """
             sheet(3,8,3)=1 put(3,0,9)=1 put(3,1,9)=1 put(3,2,9)=1 move(0,1,3,1,1)=1 bases(3)=3 ofEye(0,2)=9 ofEye(1,2)=5 ofEye(2,2)=9 bases(0)=3
