@@ -22,8 +22,9 @@ import java.util.regex.Pattern;
  *   say'b+h'         these bytes come to THE TAPE
  * </pre>
  *
- * Behind each call that is refused, and behind each that only asks, all is looked at: the run up to there is made on two
- * new objects, one goes through the call and the other doesn't, and both are asked for everything that can be asked.
+ * Behind each call that is refused, and behind each that only asks, the run up to there is made on two new objects, one goes
+ * through the call and the other doesn't, and both are asked for what they hold. Of a SHEET only the first eight numbers are
+ * seen, as far as they are BASES, and of the numbers that wait only what check() tells: more would be above 512 calls.
  */
 final class Edge {
     /** Three EYES, two WEARERS and some of everything else (SHEET 3 is missing), the IMAGE not as it is now. */
@@ -191,7 +192,7 @@ final class Edge {
         Due.same(sentence + "\n    all behind " + c, all(with), all(without));
     }
 
-    /** Everything that an object tells; it is changed by that, so it is of no use behind this. */
+    /** What an object holds, as far as it tells it; it is changed by that, so it is of no use behind this. */
     private static String all(One x) {
         StringBuilder all = new StringBuilder();
         look(x, all);
