@@ -1141,17 +1141,18 @@ public final class GlassEyes {
             }
         }
 
+        /** Code that was read well never fails the tests of top; they stand so that no index hangs on the reader alone. */
         int worth(int use, int a, int b, int c) {
             Row code = codeOf[use];
             int top = -1;
             for (int i = 0; i < code.size; i++) {
                 int sign = code.numbers[i];
-                if (sign >= -3) {
+                if (sign >= -3 && top < TAPE_BYTES - 1) {
                     top++;
                     stack[top] = sign >= 0 ? sign : sign == -1 ? a : sign == -2 ? b : c;
-                } else if (sign == -'!') {
+                } else if (sign == -'!' && top >= 0) {
                     stack[top] = stack[top] == 0 ? 1 : 0;
-                } else {
+                } else if (top > 0) {
                     top--;
                     stack[top] = join(-sign, stack[top], stack[top + 1]);
                 }
